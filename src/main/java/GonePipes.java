@@ -85,7 +85,7 @@ public final class GonePipes {
             return refuseBad();
         }
         int had = now.hymnCounts[hymn];
-        now.hymnCounts[hymn] = 0;
+        now.emptyHymn(hymn);
         return had;
     }
 
@@ -663,7 +663,7 @@ public final class GonePipes {
             pipes = 0;
             readings = 0;
             for (int hymn = 0; hymn < HYMNS; hymn++) {
-                hymnCounts[hymn] = 0;
+                emptyHymn(hymn);
             }
             past.reset();
         }
@@ -722,6 +722,10 @@ public final class GonePipes {
             hymnRows[hymn * HYMN_NOTES + had] = n;
             hymnCounts[hymn] = had + 1;
             return true;
+        }
+
+        void emptyHymn(int hymn) {
+            hymnCounts[hymn] = 0;
         }
 
         boolean addReading(int pipe, int m, int place, int heard) {
@@ -1144,6 +1148,8 @@ public final class GonePipes {
             if (!readNumber(0, HYMNS - 1)) {
                 return false;
             }
+            // an item tells all that the hymn has: an earlier one of the same hymn no longer stands
+            organ.emptyHymn(row[0]);
             for (int i = 0; i <= HYMN_NOTES; i++) {
                 step();
                 if (sort == STOP) {

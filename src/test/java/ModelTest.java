@@ -603,7 +603,7 @@ public final class ModelTest {
                 got.add(Integer.parseInt(token.group(2)));
                 due.remove(0);
             } else if (token.group(2) != null && token.group(2).length() <= 2 && isDone && item.equals("hymn")
-                    && Integer.parseInt(token.group(2)) <= 35 && w.hymns.get(got.get(0)).size() + got.size() < 9) {
+                    && Integer.parseInt(token.group(2)) <= 35 && got.size() < 9) {
                 got.add(Integer.parseInt(token.group(2)));
             } else if (token.group(3) != null && isDone) {
                 take(w, item, got);
@@ -640,7 +640,7 @@ public final class ModelTest {
         } else if (item.equals("pipe")) {
             w.pipes.add(new int[] {got.get(0), got.get(1), -1, 0});
         } else if (item.equals("hymn")) {
-            w.hymns.get(got.get(0)).addAll(got.subList(1, got.size()));
+            w.hymns.set(got.get(0), new ArrayList<>(got.subList(1, got.size())));
         }
     }
 

@@ -45,6 +45,7 @@ public final class PromiseTest {
         noteAndHush();
         typeAndClear();
         readWell();
+        readHymnAgain();
         readFaults();
         readTakesThePlace();
         wishedHours();
@@ -227,9 +228,6 @@ public final class PromiseTest {
         due(9, "hymn", x.hush(1), 0);
         due(9, "8 notes", told(x, "organ;hymn 1 1 2 3 4 5 6 7 8;"), 2);
         due(9, "hymn", x.hush(1), 8);
-        due(9, "a hymn in two items", told(x, "organ;hymn 1 1 2;hymn 2 5;hymn 1 3;"), 4);
-        due(9, "hymn", x.hush(1), 3);
-        due(9, "hymn", x.hush(2), 1);
         due(9, "5 places, 8 pipes", told(x, "organ;place0 0 0 0 0;place0 0 0 0 0;place0 0 0 0 0;place0 0 0 0 0;"
             + "place0 0 0 0 0;pipe0 0;pipe0 0;pipe0 0;pipe0 0;pipe0 0;pipe0 0;pipe0 0;"), 13);
         due(9, "PIPES", x.count(0), 7);
@@ -237,6 +235,28 @@ public final class PromiseTest {
         due(9, "8 pipes", told(x, "organ;pipe0 0;pipe0 0;pipe0 0;pipe0 0;pipe0 0;pipe0 0;pipe0 0;pipe0 0;"), 9);
         due(9, "THE TEXT stays", x.read(), 9);
         refused(x, 9, "read", 0, 0, 0);
+    }
+
+    private static void readHymnAgain() {
+        GonePipes x = new GonePipes();
+        due(9, "a hymn told again", told(x, "organ;hymn 1 1 2;hymn 2 5;hymn 1 3;"), 4);
+        long again = x.digest();
+        due(5, "behind what is told last", x.note(1, 7), 2);
+        due(5, "another hymn keeps its own", x.note(2, 7), 2);
+        due(9, "told once, as long", told(x, "organ;hymn 1 3;       hymn 2 5;    "), 3);
+        due(9, "as told once", x.digest(), again);
+        due(9, "told again without notes", told(x, "organ;hymn0 1;hymn0;"), 3);
+        due(5, "the first", x.note(0, 0), 1);
+        due(9, "8 notes twice", told(x, "organ;hymn 0 1 2 3 4 5 6 7 8;hymn 0 8 7 6 5 4 3 2 1;"), 3);
+        due(5, "it is full", x.note(0, 0), -4);
+        due(6, "hush", x.hush(0), 8);
+        due(9, "8 notes, then 1", told(x, "organ;hymn 0 1 2 3 4 5 6 7 8;hymn 0 9;"), 3);
+        due(6, "hush", x.hush(0), 1);
+        due(9, "three times", told(x, "organ;hymn 2 1;hymn 2 1 2 3;hymn 2 4 5;"), 4);
+        due(6, "hush", x.hush(2), 2);
+        x.note(2, 30);
+        due(9, "what note told does not stand either", told(x, "organ;hymn 2 6;"), 2);
+        due(6, "hush", x.hush(2), 1);
     }
 
     private static void fault(GonePipes x, String text, int at) {
@@ -300,7 +320,8 @@ public final class PromiseTest {
         fault(x, "organ;hymn 0 36;", 13);
         fault(x, "organ;hymn 0 hymn 1;", 13);
         fault(x, "organ;hymn 0 1 2 3 4 5 6 7 8 9;", 29);
-        fault(x, "organ;hymn 0 1 2 3 4 5 6 7 8;hymn 0 9;", 36);
+        fault(x, "organ;hymn 0 1 2;hymn 0 1 2 3 4 5 6 7 8 9;", 40);
+        fault(x, "organ;hymn 0 1 2;hymn 0 36;", 24);
         fault(x, "organ;place 12 0 0 0 0;", 12);
         fault(x, "organ;place 0 24 0 0 0;", 14);
         fault(x, "organ;place 0 0 25 0 0;", 16);
