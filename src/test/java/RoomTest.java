@@ -2,7 +2,8 @@ import java.lang.management.ManagementFactory;
 
 /** All calls of one run live in one room: a call makes no objects, a new object makes few. */
 public final class RoomTest {
-    private static final int CALLS = 512;
+    /** Of 20 calls each: with those that fill the organ not quite the 512 that an object is used for. */
+    private static final int ROUNDS = 21;
 
     private static long made() {
         com.sun.management.ThreadMXBean threads = (com.sun.management.ThreadMXBean) ManagementFactory.getThreadMXBean();
@@ -40,7 +41,7 @@ public final class RoomTest {
 
     public static void main(String[] args) {
         GonePipes warm = fullOrgan();
-        for (int i = 0; i < 20; i++) {
+        for (int i = 0; i < ROUNDS; i++) {
             dearCalls(warm);
         }
         long before = made();
@@ -48,11 +49,11 @@ public final class RoomTest {
         long once = made() - before;
         before = made();
         long sum = 0;
-        for (int i = 0; i < CALLS / 20; i++) {
+        for (int i = 0; i < ROUNDS; i++) {
             sum += dearCalls(x);
         }
         long calls = made() - before;
-        System.out.println("bytes made by a new object " + once + ", by " + CALLS + " calls " + calls + " (" + sum + ")");
+        System.out.println("bytes made by a new object " + once + ", by " + 20 * ROUNDS + " calls " + calls + " (" + sum + ")");
         if (once > 16000 || calls > 2000) {
             System.out.println("too much is made");
             System.exit(1);
