@@ -4,6 +4,10 @@ public final class EdgesOfPromisesTest {
         + "place 4 0 24 9 9;pipe 0 0;pipe 1 1;pipe 2 2;pipe 3 3;pipe 4 4;pipe 5 12;pipe 0 35;pipe 0 24;"
         + "hymn 0 0 1 2 3 4 5 6 7;hymn 1 1 1 1 1 1 1 1 1;hymn 2 35 35 35 35 35 35 35 0;";
 
+    private static final String OTHER_ORGAN = "place 5 9 9 9 9;place 6 8 8 8 8;place 7 7 7 7 7;place 8 6 6 6 6;place 9 5 5 5 5;"
+        + "pipe 4 9;pipe 3 8;pipe 2 7;pipe 1 6;pipe 0 5;pipe 3 32;pipe 5 31;pipe 1 20;"
+        + "hymn 0 9 8 7 6 5 4 3 2;hymn 1 8 8 8 8 8 8 8 8;hymn 2 30 30 30 30 30 30 30 30;";
+
     public static void main(String[] args) throws Exception {
         Sentence.begin(args);
         newObject();
@@ -579,9 +583,15 @@ public final class EdgesOfPromisesTest {
             Sentence.bad(x, "image(2)", () -> x.image(2));
             Sentence.bad(x, "image(-1)", () -> x.image(-1));
             x.organ();
+            Sentence.put(x, OTHER_ORGAN + "pass 40");
+            for (int i = 0; i < 6; i++) {
+                x.reading(7 - i, i, 4 - i % 5, 1 - i % 2);
+            }
+            long other = x.digest();
             x.image(1);
+            x.organ();
             Sentence.due("the newer one: from(1)", x.from(1), 1);
-            Sentence.due("count(0)", x.count(0), 0);
+            Sentence.due("digest()", x.digest(), other);
             Sentence.due("the other one: from(0)", x.from(0), 1);
             Sentence.due("digest()", x.digest(), fullOrgan().digest());
         });

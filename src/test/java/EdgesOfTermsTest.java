@@ -610,6 +610,8 @@ public final class EdgesOfTermsTest {
             Sentence.asks(x, "one in the church: walk(2, 1)", () -> x.walk(2, 1), -1);
             Sentence.asks(x, "one in the church: walk(2, 0)", () -> x.walk(2, 0), 0);
             Sentence.asks(x, "one is AWAY: walk(3, 1)", () -> x.walk(3, 1), 0);
+            Sentence.asks(x, "behind a walk: walk(2, 0)", () -> x.walk(2, 0), 0);
+            Sentence.asks(x, "behind a walk: walk(2, 1)", () -> x.walk(2, 1), -1);
             GonePipes y = new GonePipes();
             Sentence.asks(y, "no pipes: walk(0, 1)", () -> y.walk(0, 1), -1);
         });

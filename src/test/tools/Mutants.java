@@ -55,19 +55,19 @@ public final class Mutants {
             int number = i;
             answers.add(pool.submit((Callable<String>) () -> tryOne(all.get(number), number)));
         }
-        int killed = 0;
+        int seenOnes = 0;
         int left = 0;
         for (Future<String> answer : answers) {
             String told = answer.get();
-            killed += told.equals("killed") ? 1 : 0;
+            seenOnes += told.equals("seen") ? 1 : 0;
             left += told.startsWith("left") ? 1 : 0;
             if (told.startsWith("left")) {
                 System.out.println(told);
             }
         }
         pool.shutdown();
-        System.out.println(all.size() + " breaks, seen " + killed + ", not seen " + left + ", do not compile "
-            + (all.size() - killed - left));
+        System.out.println(all.size() + " breaks, seen " + seenOnes + ", not seen " + left + ", do not compile "
+            + (all.size() - seenOnes - left));
         Files.write(work.resolve("sentences"), seen);
         System.out.println("sentences that see a break: " + seen.size() + ", listed in " + work.resolve("sentences"));
     }
@@ -91,7 +91,7 @@ public final class Mutants {
     private static List<Mutant> mutants(String source) {
         List<Mutant> all = new ArrayList<>();
         Pattern part = Pattern.compile("(?s)/\\*.*?\\*/|//[^\n]*|\"[^\"]*\"|'[^']*'|\\b\\d+L?\\b|\\b(?:true|false)\\b"
-            + "|\\+\\+|--|[<>=!]=|&&|\\|\\||<<|>>|[+*%/-]=|[<>+*%/-]|(?m:^ +[a-zA-Z][^\n=;]*\\([^\n]*\\);$)");
+            + "|\\+\\+|--|[<>=!]=|&&|\\|\\||<<|>>|[+*%/-]=|[<>+*%/-]");
         Matcher found = part.matcher(source);
         while (found.find()) {
             String was = found.group();
@@ -101,18 +101,27 @@ public final class Mutants {
                 if (n > 0) {
                     add(all, source, found.start(), was, Long.toString(n - 1) + (was.endsWith("L") ? "L" : ""));
                 }
-            } else if (was.startsWith(" ") && !was.trim().startsWith("return")) {
-                add(all, source, found.start(), was, "");
-                found.region(found.start() + was.length() - was.stripLeading().length(), source.length());
-            } else if (was.startsWith(" ")) {
-                found.region(found.start() + was.length() - was.stripLeading().length(), source.length());
             } else {
                 for (String is : OTHERS.getOrDefault(was, new String[0])) {
                     add(all, source, found.start(), was, is);
                 }
             }
         }
+        addLines(all, source);
         return all;
+    }
+
+    /** A statement is left out, a condition always or never holds. */
+    private static void addLines(List<Mutant> all, String source) {
+        Matcher found = Pattern.compile("(?m)^ {8,}(?!return|break|continue|for)([a-zA-Z].*;)$").matcher(source);
+        while (found.find()) {
+            add(all, source, found.start(1), found.group(1), ";");
+        }
+        found = Pattern.compile("(?s)\\bif \\((.*?)\\) \\{\n").matcher(source);
+        while (found.find()) {
+            add(all, source, found.start(1), found.group(1), "1 == 1");
+            add(all, source, found.start(1), found.group(1), "false");
+        }
     }
 
     private static void add(List<Mutant> all, String source, int at, String was, String is) {
@@ -133,8 +142,12 @@ public final class Mutants {
         for (String test : tests) {
             isSeen |= fails(test, dir);
         }
+        for (File made : dir.toFile().listFiles()) {
+            Files.delete(made.toPath());
+        }
+        Files.delete(dir);
         String line = mutant.text.split("\n", -1)[mutant.line - 1].trim();
-        return isSeen ? "killed" : "left: line " + mutant.line + ": " + mutant.was + " -> " + mutant.is + "    " + line;
+        return isSeen ? "seen" : "left: line " + mutant.line + ": " + mutant.was + " -> " + mutant.is + "    " + line;
     }
 
     private static boolean fails(String test, Path dir) throws Exception {
